@@ -931,12 +931,6 @@ public final class GraftQuarrel {
             return greatest;
         }
 
-        /** The odds of the surest law. */
-        int topOdds() {
-            int kinds = (1 << KIND_COUNT) - 1;
-            return greatestOdds(kinds, kinds);
-        }
-
         int shareOf(int parties, int f, int shared) {
             int all = peopleOf(parties);
             if (!has(parties, f) || all < 1) {
@@ -1249,13 +1243,13 @@ public final class GraftQuarrel {
 
     /** The row of grafts that leaves fewest, the likeliest and first of these. */
     private static final class GraftPlan {
-        // Rows by level: how all stand behind so many grafts.
+        // By level: how all that may be grafted stand behind so many grafts (0: it doesn't).
         private final int[] parties = new int[(MOST + 1) * MOST];
         private final int[] kinds = new int[(MOST + 1) * MOST];
         private final int[] row = new int[MOST];
         private final int[] rowOdds = new int[MOST];
         private Valley valley;
-        private int pottedStanding;
+        // No graft of these quarrels is likelier.
         private int topOdds;
         private long bestProduct;
         private int bestOddsSum;
@@ -1264,13 +1258,14 @@ public final class GraftQuarrel {
 
         void seek(Valley told, Garden garden) {
             valley = told;
-            topOdds = told.topOdds();
-            pottedStanding = Integer.bitCount(told.pots);
+            int present = 0;
             for (int q = 0; q < MOST; q++) {
                 boolean free = q < told.quarrels && garden.stands(q) && !told.isPotted(q);
                 parties[q] = free ? garden.partiesOf(told, q) : 0;
                 kinds[q] = free ? garden.kindsOf(told, q) : 0;
+                present |= kinds[q];
             }
+            topOdds = told.greatestOdds(present, present);
             bestLength = -1;
             bestProduct = 0;
             goOn(0, 1);

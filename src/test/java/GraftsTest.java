@@ -10,6 +10,7 @@ public final class GraftsTest {
         surestWithPots();
         withoutGrafts();
         sixOfSix();
+        oneInAHundred();
         C.end();
     }
 
@@ -139,6 +140,20 @@ public final class GraftsTest {
             C.is("surestAt(" + i + ")", x.surestAt(i), due[i]);
         }
         C.refused(x, "surestAt(4)", x.surestAt(4), -1, 1);
+    }
+
+    private static void oneInAHundred() {
+        GraftQuarrel x = Checks.of("family a people 1", "family b people 1", "family c people 1",
+                "family d people 1", "quarrel p land of a b vigour 10", "quarrel q word of c d vigour 10",
+                "law word on land odds 1");
+        C.is("odds(1, 0)", x.odds(1, 0), 1);
+        C.is("bestGraft(1)", x.bestGraft(1), 10);
+        C.is("left()", x.left(), 1);
+        C.is("surest(false)", x.surest(false), 1);
+        C.is("surest(true)", x.surest(true), 100);
+        C.is("takes(false)", x.takes(false), 1);
+        C.is("takes(true)", x.takes(true), 100);
+        C.is("surestAt(0)", x.surestAt(0), 10);
     }
 
     static String[] with(String[] lines, String... more) {

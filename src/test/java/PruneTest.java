@@ -140,6 +140,12 @@ public final class PruneTest {
         C.is("sixty is right", sixty.feedFor(0, 1), 60);
         C.is("fifty-nine", sixty.feedFor(1, 1), 59);
         C.is("sixty isn't", sixty.feedFor(0, 2), -2);
+        GraftQuarrel more = Checks.ofText("valley winter 1 bears 30 coins 1 1 1 1" + AB
+                + "quarrel p land of a b vigour 0");
+        for (int i = 0; i < 3; i++) {
+            more.season();
+        }
+        C.is("sixty-one would be", more.feedFor(0, 1), -2);
     }
 
     private static void feedAgainst() {

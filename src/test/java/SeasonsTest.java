@@ -114,6 +114,10 @@ public final class SeasonsTest {
         GraftQuarrel y = Checks.ofText("valley winter 0 bears 10 coins 1 1 1 1;family a people 1;family b people 1;"
                 + "quarrel p land of a b vigour 5");
         C.goes(y, "peaceBy() never", y.peaceBy(), -2);
+        String six = "valley winter 3 bears 30 coins 1 1 1 1;family a people 1;family b people 1;"
+                + "quarrel p land of a b vigour ";
+        C.is("peaceBy() by six winters", Checks.ofText(six + "18").peaceBy(), 24);
+        C.is("peaceBy() by seven", Checks.ofText(six + "19").peaceBy(), -2);
     }
 
     private static void worstAndSpared() {

@@ -150,6 +150,9 @@ public final class TextTest {
         bad(1, "valley|");
         bad(1, "valley |7");
         bad(1, "valley winter |x");
+        bad(1, "valley winter 1 bears |?");
+        bad(1, "valley winter 1 bears |/");
+        bad(1, "valley winter 1 bears |:");
         bad(1, "valley winter 1 bears 5 coins 1 1 1|");
         bad(1, "valley winter 1 bears 5 coins 1 1 1|;");
         bad(1, V + " |1");
