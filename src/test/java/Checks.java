@@ -7,6 +7,7 @@ final class Checks {
     static final String HEAD = "valley winter 3 bears 10 coins 2 3 1 5";
 
     private final String name;
+    private String part = "";
     private int done = 0;
     private int wrong = 0;
 
@@ -18,7 +19,7 @@ final class Checks {
         done++;
         if (got != due) {
             wrong++;
-            System.out.println(name + ": " + what + " answered " + got + ", due is " + due);
+            System.out.println(name + ": " + part + what + " answered " + got + ", due is " + due);
         }
     }
 
@@ -45,6 +46,37 @@ final class Checks {
             thrown = true;
         }
         is("led(" + i + ") throws", thrown, true);
+    }
+
+    /** A text that has a FAULT at the first sign behind the bar, which isn't part of it. */
+    void bad(int fault, String barred) {
+        int place = barred.indexOf('|');
+        String text = barred.substring(0, place) + barred.substring(place + 1);
+        GraftQuarrel x = new GraftQuarrel();
+        refused(x, "valley of " + barred, tell(x, text), -1, 4);
+        is("fault() of " + barred, x.fault(), fault);
+        is("where() of " + barred, x.where(), place);
+    }
+
+    /** A text without a FAULT. */
+    void good(int quarrels, String text) {
+        GraftQuarrel x = new GraftQuarrel();
+        goes(x, "valley of " + text, tell(x, text), quarrels);
+        is("fault() of " + text, x.fault(), 0);
+        is("where() of " + text, x.where(), -1);
+    }
+
+    /** A part of a test, named in what is printed; it must look at an answer. */
+    void part(String called, Runnable test) {
+        int before = done;
+        part = called + ": ";
+        try {
+            test.run();
+        } catch (RuntimeException | Error e) {
+            is("nothing is thrown, but " + e, false, true);
+        }
+        is("answers are looked at", done > before, true);
+        part = "";
     }
 
     /** Ends the program: with 1 if an answer was wrong or none was looked at. */
@@ -81,6 +113,26 @@ final class Checks {
     /** A new object whose valley is of these lines behind HEAD. */
     static GraftQuarrel of(String... lines) {
         return ofText(HEAD + ";" + String.join(";", lines));
+    }
+
+    /** A new object with coins 1 1 1 1, families a to f of one each, and these lines. */
+    static GraftQuarrel six(int winter, int bears, String... lines) {
+        return ofText(sixText(winter, bears, lines));
+    }
+
+    static String sixText(int winter, int bears, String... lines) {
+        return "valley winter " + winter + " bears " + bears + " coins 1 1 1 1"
+                + ";family a people 1;family b people 1;family c people 1"
+                + ";family d people 1;family e people 1;family f people 1;" + String.join(";", lines);
+    }
+
+    /** Seasons that go by. */
+    static void pass(GraftQuarrel x, int seasons) {
+        for (int i = 0; i < seasons; i++) {
+            if (x.season() < 0) {
+                throw new IllegalStateException("season() is refused");
+            }
+        }
     }
 
     static GraftQuarrel ofText(String text) {

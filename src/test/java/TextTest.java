@@ -21,23 +21,6 @@ public final class TextTest {
         C.end();
     }
 
-    /** A text that has a FAULT at the first sign behind the bar, which isn't part of it. */
-    private static void bad(int fault, String barred) {
-        int place = barred.indexOf('|');
-        String text = barred.substring(0, place) + barred.substring(place + 1);
-        GraftQuarrel x = new GraftQuarrel();
-        C.refused(x, "valley of " + barred, Checks.tell(x, text), -1, 4);
-        C.is("fault() of " + barred, x.fault(), fault);
-        C.is("where() of " + barred, x.where(), place);
-    }
-
-    private static void good(int quarrels, String text) {
-        GraftQuarrel x = new GraftQuarrel();
-        C.goes(x, "valley of " + text, Checks.tell(x, text), quarrels);
-        C.is("fault() of " + text, x.fault(), 0);
-        C.is("where() of " + text, x.where(), -1);
-    }
-
     private static void newObject() {
         GraftQuarrel x = new GraftQuarrel();
         C.is("trouble() of a new one", x.trouble(), 0);
@@ -126,123 +109,123 @@ public final class TextTest {
     }
 
     private static void goodTexts() {
-        good(1, Q);
-        good(1, "  " + Q.replace(" ", "   ") + "  ");
-        good(1, Q.replace(";", " ; "));
-        good(1, "valley winter0bears04coins1 1 001 9;family a people99;family b people1;"
+        C.good(1, Q);
+        C.good(1, "  " + Q.replace(" ", "   ") + "  ");
+        C.good(1, Q.replace(";", " ; "));
+        C.good(1, "valley winter0bears04coins1 1 001 9;family a people99;family b people1;"
                 + "quarrel q debt of b a vigour30");
-        good(1, V + ";family winter people 1;family land people 2;quarrel of word of winter land vigour 0"
+        C.good(1, V + ";family winter people 1;family land people 2;quarrel of word of winter land vigour 0"
                 + ";pot of;deed of season 23 feeds 9;fell of season 0");
-        good(1, V + ";family abcdefgh people 1;family abcdefg people 1;"
+        C.good(1, V + ";family abcdefgh people 1;family abcdefg people 1;"
                 + "quarrel z land of abcdefg abcdefgh vigour 3");
-        good(1, Q + ";law love on love odds 1;law love on word odds 100;law word on love odds 5");
-        good(1, Q + ";deed q season 0 feeds 1;deed q season 0 feeds 1;pot q");
-        good(2, Q + ";quarrel r love of a b vigour 1;fell q season 5;fell r season 5;fell q season 6");
+        C.good(1, Q + ";law love on love odds 1;law love on word odds 100;law word on love odds 5");
+        C.good(1, Q + ";deed q season 0 feeds 1;deed q season 0 feeds 1;pot q");
+        C.good(2, Q + ";quarrel r love of a b vigour 1;fell q season 5;fell r season 5;fell q season 6");
     }
 
     private static void form() {
-        bad(1, "|");
-        bad(1, "   |");
-        bad(1, "|;");
-        bad(1, "|7");
-        bad(1, "|hello");
-        bad(1, "|Valley");
-        bad(1, "valley|");
-        bad(1, "valley |7");
-        bad(1, "valley winter |x");
-        bad(1, "valley winter 1 bears |?");
-        bad(1, "valley winter 1 bears |/");
-        bad(1, "valley winter 1 bears |:");
-        bad(1, "valley winter 1 bears 5 coins 1 1 1|");
-        bad(1, "valley winter 1 bears 5 coins 1 1 1|;");
-        bad(1, V + " |1");
-        bad(1, V + ";|");
-        bad(1, V + ";|;family a people 1");
-        bad(1, Q + "  ;  |");
-        bad(1, Q + " |q");
-        bad(1, V + "; family |abcdefghi people 1");
-        bad(1, V + "; family a people |1000");
-        bad(1, V + "; family a people |0001");
-        bad(1, V + "; family |A people 1");
-        bad(1, V + "; family a|\u00e9 people 1");
-        bad(1, V + "|,family a people 1");
-        bad(1, V + "|\n;family a people 1");
-        bad(1, V + "; family |7");
-        bad(1, V + "; family a |persons");
-        bad(1, V + "; family a people |many");
+        C.bad(1, "|");
+        C.bad(1, "   |");
+        C.bad(1, "|;");
+        C.bad(1, "|7");
+        C.bad(1, "|hello");
+        C.bad(1, "|Valley");
+        C.bad(1, "valley|");
+        C.bad(1, "valley |7");
+        C.bad(1, "valley winter |x");
+        C.bad(1, "valley winter 1 bears |?");
+        C.bad(1, "valley winter 1 bears |/");
+        C.bad(1, "valley winter 1 bears |:");
+        C.bad(1, "valley winter 1 bears 5 coins 1 1 1|");
+        C.bad(1, "valley winter 1 bears 5 coins 1 1 1|;");
+        C.bad(1, V + " |1");
+        C.bad(1, V + ";|");
+        C.bad(1, V + ";|;family a people 1");
+        C.bad(1, Q + "  ;  |");
+        C.bad(1, Q + " |q");
+        C.bad(1, V + "; family |abcdefghi people 1");
+        C.bad(1, V + "; family a people |1000");
+        C.bad(1, V + "; family a people |0001");
+        C.bad(1, V + "; family |A people 1");
+        C.bad(1, V + "; family a|\u00e9 people 1");
+        C.bad(1, V + "|,family a people 1");
+        C.bad(1, V + "|\n;family a people 1");
+        C.bad(1, V + "; family |7");
+        C.bad(1, V + "; family a |persons");
+        C.bad(1, V + "; family a people |many");
         for (String word : new String[] {"valley", "family", "quarrel", "law", "deed", "pot", "fell"}) {
-            bad(1, V + ";family |" + word + " people 1");
-            bad(1, AB + ";quarrel |" + word + " love of a b vigour 1");
-            bad(1, AB + ";quarrel q love of |" + word);
-            bad(1, AB + ";quarrel q love of a |" + word);
-            bad(1, Q + ";pot |" + word);
-            bad(1, Q + ";deed |" + word);
-            bad(1, Q + ";fell |" + word);
+            C.bad(1, V + ";family |" + word + " people 1");
+            C.bad(1, AB + ";quarrel |" + word + " love of a b vigour 1");
+            C.bad(1, AB + ";quarrel q love of |" + word);
+            C.bad(1, AB + ";quarrel q love of a |" + word);
+            C.bad(1, Q + ";pot |" + word);
+            C.bad(1, Q + ";deed |" + word);
+            C.bad(1, Q + ";fell |" + word);
         }
-        bad(1, AB + ";quarrel q |hate");
-        bad(1, AB + ";quarrel q |of");
-        bad(1, AB + ";quarrel q love |a");
-        bad(1, AB + ";quarrel q love of a b |1");
-        bad(1, AB + ";quarrel q love of a b vigour|");
-        bad(1, Q + ";law |hate on love odds 1");
-        bad(1, Q + ";law love |off");
-        bad(1, Q + ";law love on |hate");
-        bad(1, Q + ";law love on love |1");
-        bad(1, Q + ";law love on love odds |;");
-        bad(1, Q + ";deed q |feeds 1");
-        bad(1, Q + ";deed q season 1 |1");
-        bad(1, Q + ";fell q |1");
-        bad(1, Q + ";fell q season 1 |feeds");
-        bad(1, Q + ";pot q |season");
-        bad(1, Q + ";|winter");
+        C.bad(1, AB + ";quarrel q |hate");
+        C.bad(1, AB + ";quarrel q |of");
+        C.bad(1, AB + ";quarrel q love |a");
+        C.bad(1, AB + ";quarrel q love of a b |1");
+        C.bad(1, AB + ";quarrel q love of a b vigour|");
+        C.bad(1, Q + ";law |hate on love odds 1");
+        C.bad(1, Q + ";law love |off");
+        C.bad(1, Q + ";law love on |hate");
+        C.bad(1, Q + ";law love on love |1");
+        C.bad(1, Q + ";law love on love odds |;");
+        C.bad(1, Q + ";deed q |feeds 1");
+        C.bad(1, Q + ";deed q season 1 |1");
+        C.bad(1, Q + ";fell q |1");
+        C.bad(1, Q + ";fell q season 1 |feeds");
+        C.bad(1, Q + ";pot q |season");
+        C.bad(1, Q + ";|winter");
     }
 
     private static void names() {
-        bad(2, AB + ";quarrel q love of |c b vigour 1");
-        bad(2, AB + ";quarrel q love of a |c vigour 1");
-        bad(2, AB + ";quarrel q love of |q b vigour 1");
-        bad(2, Q + ";quarrel r love of a |q vigour 1");
-        bad(2, AB + ";deed |q season 1 feeds 1");
-        bad(2, Q + ";deed |a season 1 feeds 1");
-        bad(2, Q + ";pot |r");
-        bad(2, Q + ";pot |b");
-        bad(2, Q + ";fell |qq season 1");
-        bad(2, Q + ";fell |a season 1");
+        C.bad(2, AB + ";quarrel q love of |c b vigour 1");
+        C.bad(2, AB + ";quarrel q love of a |c vigour 1");
+        C.bad(2, AB + ";quarrel q love of |q b vigour 1");
+        C.bad(2, Q + ";quarrel r love of a |q vigour 1");
+        C.bad(2, AB + ";deed |q season 1 feeds 1");
+        C.bad(2, Q + ";deed |a season 1 feeds 1");
+        C.bad(2, Q + ";pot |r");
+        C.bad(2, Q + ";pot |b");
+        C.bad(2, Q + ";fell |qq season 1");
+        C.bad(2, Q + ";fell |a season 1");
     }
 
     private static void toldAgain() {
-        bad(3, V + ";|valley");
-        bad(3, Q + ";|valley winter 1");
-        bad(3, AB + ";family |a people 1");
-        bad(3, Q + ";family |q people 1");
-        bad(3, Q + ";quarrel |q love of a b vigour 1");
-        bad(3, Q + ";quarrel |a love of a b vigour 1");
-        bad(3, AB + ";quarrel q love of a |a vigour 1");
-        bad(3, AB + ";quarrel q love of b |b 1");
-        bad(3, Q + ";law love on word odds 1;law word on love odds 1;law love on |word odds 2");
-        bad(3, Q + ";law debt on debt odds 1;law debt on |debt");
-        bad(3, Q + ";pot q;pot |q");
-        bad(3, Q + ";fell q season 4;fell q season |4");
-        bad(3, Q + ";fell q season 4;fell q season |04");
+        C.bad(3, V + ";|valley");
+        C.bad(3, Q + ";|valley winter 1");
+        C.bad(3, AB + ";family |a people 1");
+        C.bad(3, Q + ";family |q people 1");
+        C.bad(3, Q + ";quarrel |q love of a b vigour 1");
+        C.bad(3, Q + ";quarrel |a love of a b vigour 1");
+        C.bad(3, AB + ";quarrel q love of a |a vigour 1");
+        C.bad(3, AB + ";quarrel q love of b |b 1");
+        C.bad(3, Q + ";law love on word odds 1;law word on love odds 1;law love on |word odds 2");
+        C.bad(3, Q + ";law debt on debt odds 1;law debt on |debt");
+        C.bad(3, Q + ";pot q;pot |q");
+        C.bad(3, Q + ";fell q season 4;fell q season |4");
+        C.bad(3, Q + ";fell q season 4;fell q season |04");
     }
 
     private static void bounds() {
-        bad(4, "valley winter |10 bears 5");
-        bad(4, "valley winter 1 bears |3");
-        bad(4, "valley winter 1 bears |31");
-        bad(4, "valley winter 1 bears 30 coins |0");
-        bad(4, "valley winter 1 bears 30 coins 1 |10");
-        bad(4, "valley winter 1 bears 30 coins 1 1 |0");
-        bad(4, "valley winter 1 bears 30 coins 1 1 1 |999");
-        bad(4, V + ";family a people |0");
-        bad(4, V + ";family a people |100");
-        bad(4, AB + ";quarrel q love of a b vigour |31");
-        bad(4, Q + ";law love on love odds |0");
-        bad(4, Q + ";law love on love odds |101");
-        bad(4, Q + ";deed q season |24");
-        bad(4, Q + ";deed q season 23 feeds |0");
-        bad(4, Q + ";deed q season 23 feeds |10");
-        bad(4, Q + ";fell q season |24");
+        C.bad(4, "valley winter |10 bears 5");
+        C.bad(4, "valley winter 1 bears |3");
+        C.bad(4, "valley winter 1 bears |31");
+        C.bad(4, "valley winter 1 bears 30 coins |0");
+        C.bad(4, "valley winter 1 bears 30 coins 1 |10");
+        C.bad(4, "valley winter 1 bears 30 coins 1 1 |0");
+        C.bad(4, "valley winter 1 bears 30 coins 1 1 1 |999");
+        C.bad(4, V + ";family a people |0");
+        C.bad(4, V + ";family a people |100");
+        C.bad(4, AB + ";quarrel q love of a b vigour |31");
+        C.bad(4, Q + ";law love on love odds |0");
+        C.bad(4, Q + ";law love on love odds |101");
+        C.bad(4, Q + ";deed q season |24");
+        C.bad(4, Q + ";deed q season 23 feeds |0");
+        C.bad(4, Q + ";deed q season 23 feeds |10");
+        C.bad(4, Q + ";fell q season |24");
     }
 
     private static String times(int n, String line) {
@@ -254,34 +237,34 @@ public final class TextTest {
     }
 
     private static void many() {
-        good(1, Q + times(4, "family # people 1"));
-        bad(5, Q + times(4, "family # people 1") + ";|family z people 1");
-        bad(5, Q + times(4, "family # people 1") + ";|family");
-        good(6, AB + times(6, "quarrel # love of a b vigour 1"));
-        bad(5, AB + times(6, "quarrel # love of a b vigour 1") + ";|quarrel 7");
+        C.good(1, Q + times(4, "family # people 1"));
+        C.bad(5, Q + times(4, "family # people 1") + ";|family z people 1");
+        C.bad(5, Q + times(4, "family # people 1") + ";|family");
+        C.good(6, AB + times(6, "quarrel # love of a b vigour 1"));
+        C.bad(5, AB + times(6, "quarrel # love of a b vigour 1") + ";|quarrel 7");
         String laws = ";law land on land odds 1;law land on word odds 1;law land on love odds 1"
                 + ";law land on debt odds 1;law word on land odds 1;law word on word odds 1"
                 + ";law word on love odds 1;law word on debt odds 1;law love on land odds 1"
                 + ";law love on word odds 1";
-        good(1, Q + laws);
-        bad(5, Q + laws + ";|law love on land");
-        good(1, Q + times(12, "deed q season $ feeds 1"));
-        bad(5, Q + times(12, "deed q season $ feeds 1") + ";|deed x");
-        good(1, Q + times(6, "fell q season $"));
-        bad(5, Q + times(6, "fell q season $") + "; |fell q season 9");
+        C.good(1, Q + laws);
+        C.bad(5, Q + laws + ";|law love on land");
+        C.good(1, Q + times(12, "deed q season $ feeds 1"));
+        C.bad(5, Q + times(12, "deed q season $ feeds 1") + ";|deed x");
+        C.good(1, Q + times(6, "fell q season $"));
+        C.bad(5, Q + times(6, "fell q season $") + "; |fell q season 9");
     }
 
     private static void lacks() {
-        bad(6, "|family a people 1");
-        bad(6, "|quarrel");
-        bad(6, " |law");
-        bad(6, "|deed");
-        bad(6, "|pot x");
-        bad(6, "|fell");
-        bad(6, V + "|");
-        bad(6, V + "   |");
-        bad(6, AB + "|");
-        bad(6, AB + ";law love on love odds 1|");
+        C.bad(6, "|family a people 1");
+        C.bad(6, "|quarrel");
+        C.bad(6, " |law");
+        C.bad(6, "|deed");
+        C.bad(6, "|pot x");
+        C.bad(6, "|fell");
+        C.bad(6, V + "|");
+        C.bad(6, V + "   |");
+        C.bad(6, AB + "|");
+        C.bad(6, AB + ";law love on love odds 1|");
     }
 
     private static void faultAndWhere() {
