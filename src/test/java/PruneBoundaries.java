@@ -141,6 +141,16 @@ final class PruneBoundaries {
         }
     }
 
+    static void promise28BehindOneThatCannotBe(Checks c) {
+        // p is asked ahead of q and behind it: what can't be of q is nothing to p.
+        GraftQuarrel x = Checks.six(0, 4, "quarrel p land of a b vigour 9", "quarrel q land of a b vigour 9",
+                "deed q season 0 feeds 4", "deed q season 1 feeds 4");
+        for (int i = 0; i < 2; i++) {
+            cuts(c, x, 6, 6, 0);
+            c.goes(x, "prune(1, 2)", x.prune(1, 2), -2);
+        }
+    }
+
     static void promise28DeedsOfGraftedOnes(Checks c) {
         GraftQuarrel x = SeasonBoundaries.grafted(0, 10, "deed p season 1 feeds 9", "deed q season 1 feeds 1");
         c.goes(x, "prune(1, 1)", x.prune(1, 1), 0);
@@ -241,6 +251,8 @@ final class PruneBoundaries {
     static void promise30NothingIsEnough(Checks c) {
         GraftQuarrel x = one(0, 30, 30);
         c.goes(x, "feedFor(0, 0)", x.feedFor(0, 0), 0);
+        x.nourish(0, 9);
+        c.goes(x, "feedFor(0, 0) of more than bears", x.feedFor(0, 0), 0);
     }
 
     static void promise30JustSixty(Checks c) {
@@ -317,6 +329,14 @@ final class PruneBoundaries {
         c.refused(x, "feedAgainst(0, 0, 0)", x.feedAgainst(0, 0, 0), -1, 1);
         c.refused(x, "feedAgainst(0, 24, 0)", x.feedAgainst(0, 24, 0), -1, 1);
         c.goes(x, "feedAgainst(1, 0, 0)", x.feedAgainst(1, 0, 0), 24);
+    }
+
+    static void promise31NothingIsEnough(Checks c) {
+        GraftQuarrel x = one(0, 30, 30);
+        c.goes(x, "feedAgainst(0, 0, 0)", x.feedAgainst(0, 0, 0), 0);
+        x.nourish(0, 9);
+        c.goes(x, "feedAgainst(0, 0, 0) of more than bears", x.feedAgainst(0, 0, 0), 0);
+        c.goes(x, "feedAgainst(0, 0, 9)", x.feedAgainst(0, 0, 9), 0);
     }
 
     static void promise31NoMoreThanItsVigour(Checks c) {
